@@ -33,6 +33,7 @@ public final class SealedTally {
     private int candidates;
     private int radix;
     private boolean closed;
+    // Of no meaning while the box is open.
     private long total;
     private int ballotCount;
     private final long[] ballotOf;
@@ -71,7 +72,7 @@ public final class SealedTally {
         if (!isMessage(m) || !isCoin(r)) {
             return BAD;
         }
-        return sealed(m, r);
+        return sealing(m, r);
     }
 
     public long message(long c) {
@@ -124,7 +125,6 @@ public final class SealedTally {
         this.candidates = candidates;
         this.radix = radix;
         closed = false;
-        total = 0;
         ballotCount = 0;
         Arrays.fill(ballotOf, NO_BALLOT);
         return true;
@@ -137,7 +137,7 @@ public final class SealedTally {
         if (!isCandidate(candidate) || !isCoin(r)) {
             return BAD;
         }
-        return sealed(radixPower(candidate), r);
+        return sealing(radixPower(candidate), r);
     }
 
     public int cast(int voter, long c) {
@@ -235,7 +235,7 @@ public final class SealedTally {
     }
 
     public boolean check(long m, long r) {
-        return hasBox() && isMessage(m) && isCoin(r) && sealed(m, r) == productOfBallots();
+        return hasBox() && isMessage(m) && isCoin(r) && sealing(m, r) == productOfBallots();
     }
 
     private boolean hasKey() {
@@ -311,7 +311,7 @@ public final class SealedTally {
         return power;
     }
 
-    private long sealed(long m, long r) {
+    private long sealing(long m, long r) {
         // (1 + n)^m leaves 1 + m n by n n: every later term of the binomial holds n n.
         return (1 + m * n) * raised(r, n, square) % square;
     }

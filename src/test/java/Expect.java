@@ -1,14 +1,20 @@
 /** Counts and prints the answers that are not as due. */
 final class Expect {
     private static int wrong = 0;
+    private static String sentence = "";
 
     private Expect() {
+    }
+
+    /** The sentence of the document that the following answers hold to. */
+    static void under(String words) {
+        sentence = words + ": ";
     }
 
     static void same(String call, long got, long due) {
         if (got != due) {
             wrong++;
-            System.out.println(call + " answered " + got + ", due is " + due);
+            System.out.println(sentence + call + " answered " + got + ", due is " + due);
         }
     }
 

@@ -39,19 +39,6 @@ public final class PromiseTest {
         Expect.finish();
     }
 
-    private static SealedTally keyed(int p, int q) {
-        SealedTally tally = new SealedTally();
-        tally.key(p, q);
-        return tally;
-    }
-
-    /** Key 13, 17 (N 221, N N 48841) with a box. */
-    private static SealedTally boxed(int candidates, int radix) {
-        SealedTally tally = keyed(13, 17);
-        Expect.same("open(" + candidates + ", " + radix + ")", tally.open(candidates, radix), true);
-        return tally;
-    }
-
     private static void promise1NewObject() {
         noKey(new SealedTally());
         noBox(new SealedTally());
@@ -106,7 +93,7 @@ public final class PromiseTest {
     }
 
     private static void keyTakesTheBoxAway() {
-        SealedTally tally = boxed(2, 4);
+        SealedTally tally = Make.boxed(2, 4);
         tally.cast(3, 4);
         Expect.same("key(13, 17) again", tally.key(13, 17), 221);
         noBox(tally);
@@ -120,7 +107,7 @@ public final class PromiseTest {
     }
 
     private static void badKeyKeepsKeyAndBox() {
-        SealedTally tally = boxed(2, 4);
+        SealedTally tally = Make.boxed(2, 4);
         tally.cast(3, 4);
         Expect.same("key(3, 7)", tally.key(3, 7), BAD);
         Expect.same("modulus() after a bad key", tally.modulus(), 221);
@@ -146,7 +133,7 @@ public final class PromiseTest {
         for (int[] primes : SMALL_KEYS) {
             int n = primes[0] * primes[1];
             for (long r = -1; r <= n + 1; r++) {
-                SealedTally tally = keyed(primes[0], primes[1]);
+                SealedTally tally = Make.keyed(primes[0], primes[1]);
                 boolean coin = r >= 1 && r < n && Reference.isUnit(n, r);
                 for (long m = -1; m <= n + 1; m++) {
                     boolean message = m >= 0 && m < n;
@@ -155,7 +142,7 @@ public final class PromiseTest {
                 }
             }
             for (long c = -1; c <= (long) n * n + 1; c++) {
-                SealedTally tally = keyed(primes[0], primes[1]);
+                SealedTally tally = Make.keyed(primes[0], primes[1]);
                 long[] in = Reference.contents(n).get(c);
                 Expect.same(n + ": message(" + c + ")", tally.message(c), in == null ? BAD : in[0]);
                 Expect.same(n + ": coin(" + c + ")", tally.coin(c), in == null ? BAD : in[1]);
@@ -165,7 +152,7 @@ public final class PromiseTest {
 
     private static void promises4To6GreatestKey() {
         for (long r = 1; r < GREATEST; r += 1 + r % 389) {
-            SealedTally tally = keyed(227, 229);
+            SealedTally tally = Make.keyed(227, 229);
             if (!Reference.isUnit(GREATEST, r)) {
                 Expect.same("greatest: seal(0, " + r + ")", tally.seal(0, r), BAD);
                 continue;
@@ -177,7 +164,7 @@ public final class PromiseTest {
                 Expect.same("greatest: coin(" + c + ")", tally.coin(c), r);
             }
         }
-        SealedTally tally = keyed(227, 229);
+        SealedTally tally = Make.keyed(227, 229);
         for (long far : FAR) {
             Expect.same("seal(" + far + ", 1)", tally.seal(far, 1), BAD);
             Expect.same("seal(1, " + far + ")", tally.seal(1, far), BAD);
@@ -198,7 +185,7 @@ public final class PromiseTest {
                 if (!Reference.isKey(p, q)) {
                     continue;
                 }
-                SealedTally tally = keyed(p, q);
+                SealedTally tally = Make.keyed(p, q);
                 int n = p * q;
                 for (long[] in : new long[][] {{0, 1}, {1, 2}, {n / 3, n - 2}, {n - 1, n - 1}}) {
                     long c = Reference.sealing(n, in[0], in[1]);
@@ -212,13 +199,13 @@ public final class PromiseTest {
 
     private static void promise7Join() {
         for (long c = -1; c <= 226; c++) {
-            SealedTally tally = keyed(3, 5);
+            SealedTally tally = Make.keyed(3, 5);
             for (long d = -1; d <= 226; d++) {
                 boolean seals = Reference.contents(15).containsKey(c) && Reference.contents(15).containsKey(d);
                 Expect.same("join(" + c + ", " + d + ")", tally.join(c, d), seals ? c * d % 225 : BAD);
             }
         }
-        SealedTally tally = keyed(229, 227);
+        SealedTally tally = Make.keyed(229, 227);
         long last = GREATEST_SQUARE - 1;
         Expect.same("join of the greatest SEALS", tally.join(last, last), 1);
         Expect.same("join of the next greatest", tally.join(last, last - 1), 2);
@@ -237,14 +224,14 @@ public final class PromiseTest {
         for (int[] primes : new int[][] {{3, 5}, {13, 17}, {227, 229}}) {
             long n = (long) primes[0] * primes[1];
             for (long c : new long[] {1, 2, 7, n - 1, n + 1, n * n - n - 1, n * n - 2, n * n - 1}) {
-                SealedTally tally = keyed(primes[0], primes[1]);
+                SealedTally tally = Make.keyed(primes[0], primes[1]);
                 for (int k : exponents) {
                     long due = BigInteger.valueOf(c).modPow(BigInteger.valueOf(k), BigInteger.valueOf(n * n)).longValueExact();
                     Expect.same(n + ": power(" + c + ", " + k + ")", tally.power(c, k), due);
                 }
             }
         }
-        SealedTally tally = keyed(3, 5);
+        SealedTally tally = Make.keyed(3, 5);
         for (long c : new long[] {Long.MIN_VALUE, -1, 0, 3, 5, 15, 222, 225, 226, Long.MAX_VALUE}) {
             for (int k : new int[] {-1, 0, 1}) {
                 Expect.same("power(" + c + ", " + k + ")", tally.power(c, k), BAD);
@@ -258,7 +245,7 @@ public final class PromiseTest {
                 openWithRadices(primes, candidates);
             }
         }
-        SealedTally tally = keyed(227, 229);
+        SealedTally tally = Make.keyed(227, 229);
         for (int candidates : new int[] {Integer.MIN_VALUE, -1, 0, 7, 32, 64, Integer.MAX_VALUE}) {
             Expect.same("open(" + candidates + ", 2)", tally.open(candidates, 2), false);
         }
@@ -270,7 +257,7 @@ public final class PromiseTest {
     private static void openWithRadices(int[] primes, int candidates) {
         int n = primes[0] * primes[1];
         int edge = candidates < 1 ? 2 : (int) Math.round(Math.pow(n, 1.0 / candidates));
-        SealedTally tally = keyed(primes[0], primes[1]);
+        SealedTally tally = Make.keyed(primes[0], primes[1]);
         for (int radix : new int[] {Integer.MIN_VALUE, -2, 0, 1, 2, 3, edge - 1, edge, edge + 1, n, n + 1,
             1625, 2642245, 46341, 65536, 1 << 16, 1 << 22, 1 << 30, Integer.MAX_VALUE}) {
             boolean due = candidates >= 1 && candidates <= 6 && radix >= 2
@@ -280,7 +267,7 @@ public final class PromiseTest {
     }
 
     private static void openReplacesTheBox() {
-        SealedTally tally = boxed(2, 14);
+        SealedTally tally = Make.boxed(2, 14);
         tally.cast(0, 4);
         tally.cast(29, 9);
         Expect.same("open over an open box", tally.open(3, 6), true);
@@ -298,7 +285,7 @@ public final class PromiseTest {
     }
 
     private static void refusedOpenKeepsTheBox() {
-        SealedTally tally = boxed(2, 14);
+        SealedTally tally = Make.boxed(2, 14);
         tally.cast(0, 4);
         tally.close();
         Expect.same("open(2, 15)", tally.open(2, 15), false);
@@ -312,7 +299,7 @@ public final class PromiseTest {
     private static void promise10Choice() {
         int n = 221;
         List<Long> coins = Reference.coins(n);
-        SealedTally tally = boxed(3, 6);
+        SealedTally tally = Make.boxed(3, 6);
         for (long r : coins) {
             long power = r % 3 == 0 ? 1 : r % 3 == 1 ? 6 : 36;
             Expect.same("choice(" + r % 3 + ", " + r + ")", tally.choice((int) (r % 3), r), Reference.sealing(n, power, r));
@@ -331,14 +318,14 @@ public final class PromiseTest {
     }
 
     private static void choiceOfSix() {
-        SealedTally tally = keyed(227, 229);
+        SealedTally tally = Make.keyed(227, 229);
         Expect.same("open(6, 6)", tally.open(6, 6), true);
         Expect.same("choice(5, 51982)", tally.choice(5, GREATEST - 1), Reference.sealing(GREATEST, 7776, GREATEST - 1));
         Expect.same("choice(6, 1)", tally.choice(6, 1), BAD);
     }
 
     private static void promise11Cast() {
-        SealedTally tally = boxed(2, 4);
+        SealedTally tally = Make.boxed(2, 4);
         Expect.same("cast(0, 4)", tally.cast(0, 4), 1);
         Expect.same("cast(0, 4) again", tally.cast(0, 4), 0);
         Expect.same("cast(29, 48840)", tally.cast(29, 48840), 1);
@@ -365,7 +352,7 @@ public final class PromiseTest {
     }
 
     private static void castOneOrThirty() {
-        SealedTally tally = boxed(1, 2);
+        SealedTally tally = Make.boxed(1, 2);
         Expect.same("radix 2: first", tally.cast(3, 2), 1);
         Expect.same("radix 2: second", tally.cast(4, 2), FULL);
         Expect.same("radix 2: replaced", tally.cast(3, 3), 0);
@@ -380,7 +367,7 @@ public final class PromiseTest {
     }
 
     private static void promise12Withdraw() {
-        SealedTally tally = boxed(2, 3);
+        SealedTally tally = Make.boxed(2, 3);
         Expect.same("withdraw(0) from an empty box", tally.withdraw(0), NONE);
         tally.cast(0, 4);
         tally.cast(29, 25);
@@ -405,7 +392,7 @@ public final class PromiseTest {
     }
 
     private static void promise13Ballot() {
-        SealedTally tally = boxed(1, 40);
+        SealedTally tally = Make.boxed(1, 40);
         for (int voter = 0; voter < 30; voter++) {
             Expect.same("ballot(" + voter + ") before", tally.ballot(voter), NONE);
             tally.cast(voter, 1 + 221 * voter);
@@ -424,7 +411,7 @@ public final class PromiseTest {
     }
 
     private static void promise14Ballots() {
-        SealedTally tally = boxed(1, 40);
+        SealedTally tally = Make.boxed(1, 40);
         Expect.same("ballots() at first", tally.ballots(), 0);
         for (int voter = 0; voter < 30; voter++) {
             tally.cast(voter, 1);
@@ -443,7 +430,7 @@ public final class PromiseTest {
     }
 
     private static void promise15Sum() {
-        SealedTally tally = keyed(227, 229);
+        SealedTally tally = Make.keyed(227, 229);
         tally.open(1, 31);
         Expect.same("sum() without ballots", tally.sum(), 1);
         BigInteger square = BigInteger.valueOf(GREATEST_SQUARE);
@@ -465,7 +452,7 @@ public final class PromiseTest {
     }
 
     private static void promise16Close() {
-        SealedTally tally = boxed(2, 14);
+        SealedTally tally = Make.boxed(2, 14);
         Expect.same("close() without ballots", tally.close(), 0);
         Expect.same("close() again", tally.close(), CLOSED);
         tally.open(2, 14);
@@ -481,7 +468,7 @@ public final class PromiseTest {
     }
 
     private static void promise17Votes() {
-        SealedTally tally = boxed(3, 6);
+        SealedTally tally = Make.boxed(3, 6);
         tally.cast(0, tally.choice(0, 2));
         tally.cast(1, tally.choice(2, 3));
         tally.cast(2, tally.choice(2, 5));
@@ -503,7 +490,7 @@ public final class PromiseTest {
     /** Ballots may hold any message, so a TOTAL may be above radix^candidates too. */
     private static void votesOfAnyTotal() {
         for (int m = 0; m < 221; m++) {
-            SealedTally tally = boxed(3, 6);
+            SealedTally tally = Make.boxed(3, 6);
             tally.cast(9, tally.seal(m, 100));
             Expect.same("close() of " + m, tally.close(), m);
             Expect.same("votes(0) of " + m, tally.votes(0), m % 6);
@@ -513,7 +500,7 @@ public final class PromiseTest {
     }
 
     private static void promise18Witness() {
-        SealedTally tally = boxed(2, 14);
+        SealedTally tally = Make.boxed(2, 14);
         Expect.same("witness() of an open box", tally.witness(), NONE);
         tally.cast(0, tally.choice(0, 100));
         tally.cast(1, tally.choice(1, 200));
@@ -527,7 +514,7 @@ public final class PromiseTest {
     }
 
     private static void promise19Check() {
-        SealedTally tally = boxed(2, 14);
+        SealedTally tally = Make.boxed(2, 14);
         Expect.same("check(0, 1) without ballots", tally.check(0, 1), true);
         Expect.same("check(221, 1) without ballots", tally.check(221, 1), false);
         Expect.same("check(0, 222) without ballots", tally.check(0, 222), false);
